@@ -36,9 +36,9 @@ public final class TaleCourt {
     private final Court draft = new Court();
     private final Telling now = new Telling(court);
     private final Telling trial = new Telling(court);
-    private final Survey survey = new Survey(court);
-    private final Game game = new Game(court);
     private final Claims claims = new Claims();
+    private final Survey survey = new Survey(court, claims);
+    private final Game game = new Game(court);
     private final Row[] slots = new Row[SLOTS];
     private final Image[] images = new Image[IMAGES];
 
@@ -74,13 +74,13 @@ public final class TaleCourt {
     }
 
     public int court() {
-        if (!reader.read(draft)) {
+        boolean isGood = reader.read(draft);
+        reader.size = 0;
+        if (!isGood) {
             return FAULTY;
         }
-        reader.size = 0;
         court.copyFrom(draft);
         now.clear();
-        survey.forget();
         return court.lines;
     }
 
@@ -153,7 +153,6 @@ public final class TaleCourt {
             return REFUSED;
         }
         now.tell(motif);
-        survey.forget();
         return court.value(motif);
     }
 
@@ -165,7 +164,6 @@ public final class TaleCourt {
             return REFUSED;
         }
         now.pass();
-        survey.forget();
         return now.count;
     }
 
@@ -177,7 +175,6 @@ public final class TaleCourt {
             return REFUSED;
         }
         now.takeBack();
-        survey.forget();
         return now.count;
     }
 
@@ -187,7 +184,6 @@ public final class TaleCourt {
         }
         int turns = now.count;
         now.clear();
-        survey.forget();
         return turns;
     }
 
@@ -247,127 +243,91 @@ public final class TaleCourt {
     // What can come of the tale
 
     public int longest() {
-        if (!court.stands()) {
-            return NO_SUCH;
-        }
-        survey.look(now);
-        return survey.mostRows();
+        return court.stands() ? survey.ask(now, Survey.LONGEST, 0, 0) : NO_SUCH;
     }
 
     public int full() {
-        if (!court.stands()) {
-            return NO_SUCH;
-        }
-        survey.look(now);
-        return survey.mostWhole();
+        return court.stands() ? survey.ask(now, Survey.FULL, 0, 0) : NO_SUCH;
     }
 
     public int line(int i) {
-        if (!court.stands()) {
-            return NO_SUCH;
-        }
-        survey.look(now);
-        survey.find(now, survey.mostRows(), NONE);
-        return survey.foundAt(i);
+        return court.stands() ? survey.askRow(now, Survey.LONGEST, 0, i) : NO_SUCH;
     }
 
     public int best() {
-        if (!court.stands()) {
-            return NO_SUCH;
-        }
-        survey.look(now);
-        return survey.mostPoints(0);
+        return court.stands() ? survey.ask(now, Survey.BEST, 0, 0) : NO_SUCH;
     }
 
     public int tale(int i) {
         if (!court.stands()) {
             return NO_SUCH;
         }
-        survey.look(now);
-        int most = survey.mostPoints(0);
-        return most < 0 ? NONE : roofMotif(most, i);
+        int most = survey.ask(now, Survey.BEST, 0, 0);
+        return most < 0 ? NONE : survey.askRow(now, Survey.ROOF, most, i);
     }
 
     public int roof(int n) {
-        if (!court.stands() || n < 0) {
-            return NO_SUCH;
-        }
-        survey.look(now);
-        return survey.fewest(n);
+        return court.stands() && n >= 0 ? survey.ask(now, Survey.ROOF, n, 0) : NO_SUCH;
     }
 
     public int beam(int n, int i) {
-        if (!court.stands() || n < 0) {
-            return NO_SUCH;
-        }
-        survey.look(now);
-        return roofMotif(n, i);
-    }
-
-    private int roofMotif(int n, int i) {
-        int size = survey.fewest(n);
-        if (size < 0) {
-            return NONE;
-        }
-        survey.find(now, size, n);
-        return survey.foundAt(i);
+        return court.stands() && n >= 0 ? survey.askRow(now, Survey.ROOF, n, i) : NO_SUCH;
     }
 
     public int rows(int n) {
-        if (!court.stands() || n < 0 || n > MOTIFS) {
-            return NO_SUCH;
-        }
-        survey.look(now);
-        return survey.rowsOf[n];
+        return court.stands() && n >= 0 && n <= MOTIFS ? survey.ask(now, Survey.ROWS, n, 0) : NO_SUCH;
     }
 
     public int wholes() {
-        if (!court.stands()) {
-            return NO_SUCH;
-        }
-        survey.look(now);
-        return survey.wholesWith(0);
+        return court.stands() ? wholesWithout(0) : NO_SUCH;
+    }
+
+    /** Whole tales from now on that tell none of a set any more. */
+    private int wholesWithout(int set) {
+        return survey.ask(now, Survey.WHOLES, 0, set);
     }
 
     public int ends(int motif) {
-        if (!court.hasMotif(motif)) {
-            return NO_SUCH;
-        }
-        survey.look(now);
-        return survey.endings[motif];
+        return court.hasMotif(motif) ? survey.ask(now, Survey.ENDS, motif, 0) : NO_SUCH;
     }
 
     public int always(int what) {
         if (!court.stands() || what < 0 || what > 1) {
             return NO_SUCH;
         }
-        survey.look(now);
-        return what == 0 ? survey.inAll() : survey.inSome();
+        int all = wholesWithout(0);
+        if (all == 0) {
+            return 0;
+        }
+        int set = now.toldSet;
+        for (int m = 0; m < court.motifs; m++) {
+            int without = wholesWithout(1 << m);
+            if (what == 0 ? without == 0 : without < all) {
+                set |= 1 << m;
+            }
+        }
+        return set;
     }
 
+    /** A whole tale is lost by a forbidden ending if it ends so. */
     public int around(int motif) {
         return ends(motif);
     }
 
     public int lack(int motif) {
-        if (!court.hasMotif(motif)) {
-            return NO_SUCH;
-        }
-        survey.look(now);
-        return survey.wholesWith(1 << motif);
+        return court.hasMotif(motif) ? wholesWithout(0) - wholesWithout(1 << motif) : NO_SUCH;
     }
 
     public int crux() {
         if (!court.stands()) {
             return NO_SUCH;
         }
-        survey.look(now);
         int first = NONE;
-        int most = NONE;
+        int least = 0;
         for (int m = 0; m < court.motifs; m++) {
-            int lost = survey.wholesWith(1 << m);
-            if (lost > most) {
-                most = lost;
+            int without = wholesWithout(1 << m);
+            if (first < 0 || without < least) {
+                least = without;
                 first = m;
             }
         }
@@ -378,9 +338,8 @@ public final class TaleCourt {
         if (!court.hasMotif(motif)) {
             return NO_SUCH;
         }
-        survey.look(now);
-        int most = survey.mostPoints(0);
-        int without = survey.mostPoints(1 << motif);
+        int most = survey.ask(now, Survey.BEST, 0, 0);
+        int without = survey.ask(now, Survey.BEST, 0, 1 << motif);
         return most < 0 || without < 0 ? NONE : most - without;
     }
 
@@ -398,7 +357,7 @@ public final class TaleCourt {
         if (bar != 0) {
             return bar;
         }
-        game.begin(now);
+        game.begin(now, true);
         return game.isWon() ? 1 : 0;
     }
 
@@ -407,7 +366,7 @@ public final class TaleCourt {
         if (bar != 0) {
             return bar;
         }
-        game.begin(now);
+        game.begin(now, true);
         int winning = game.winningMoves();
         for (int m = 0; m <= SILENCE; m++) {
             if ((winning >> m & 1) != 0) {
@@ -422,7 +381,7 @@ public final class TaleCourt {
         if (bar != 0) {
             return bar;
         }
-        game.begin(now);
+        game.begin(now, false);
         return game.turnsToEnd();
     }
 
@@ -431,21 +390,21 @@ public final class TaleCourt {
         if (bar != 0) {
             return bar;
         }
-        game.begin(now);
+        game.begin(now, true);
         return game.winningMoves();
     }
 
     public int kept(int motif, int teller) {
-        if (!court.hasMotif(motif) || !court.mayKeep(teller)) {
-            return NO_SUCH;
-        }
         int bar = gameBar();
         if (bar != 0) {
             return bar;
         }
+        if (!court.hasMotif(motif) || !court.mayKeep(teller)) {
+            return NO_SUCH;
+        }
         int keeper = court.keeper[motif];
         court.setKeeper(motif, teller);
-        game.begin(now);
+        game.begin(now, true);
         boolean won = game.isWon();
         court.setKeeper(motif, keeper);
         return won ? 1 : 0;
@@ -456,7 +415,7 @@ public final class TaleCourt {
         if (bar != 0) {
             return bar;
         }
-        game.begin(now);
+        game.begin(now, true);
         if (game.isWon()) {
             return NONE;
         }
@@ -478,7 +437,7 @@ public final class TaleCourt {
         }
         court.setKeeper(a, second);
         court.setKeeper(b, first);
-        game.begin(now);
+        game.begin(now, true);
         boolean won = game.isWon();
         court.setKeeper(a, first);
         court.setKeeper(b, second);
@@ -501,7 +460,6 @@ public final class TaleCourt {
         }
         int keeper = court.keeper[motif];
         court.setKeeper(motif, teller);
-        survey.forget();
         return keeper;
     }
 
@@ -511,7 +469,6 @@ public final class TaleCourt {
         }
         int was = court.forbidden >> motif & 1;
         court.forbidden = court.forbidden & ~(1 << motif) | is << motif;
-        survey.forget();
         return was;
     }
 
@@ -604,7 +561,7 @@ public final class TaleCourt {
         if (bar != 0) {
             return bar;
         }
-        return survey.fitting(now, claims);
+        return claims.allowTale(now) ? survey.ask(now, Survey.FITS, 0, 0) : 0;
     }
 
     public int liars(int slot) {
@@ -770,7 +727,6 @@ public final class TaleCourt {
         }
         court.copyFrom(image.court);
         now.copyFrom(image.tale);
-        survey.forget();
         return 0;
     }
 
@@ -933,16 +889,6 @@ public final class TaleCourt {
                 return 0;
             }
             return (sung >> motif & 1) != 0 ? 3 * worth[motif] : worth[motif];
-        }
-
-        int valueOfSet(int set) {
-            int sum = 0;
-            for (int m = 0; m < motifs; m++) {
-                if ((set >> m & 1) != 0) {
-                    sum += value(m);
-                }
-            }
-            return sum;
         }
 
         int leaders(int motif) {
@@ -1317,6 +1263,19 @@ public final class TaleCourt {
             return set;
         }
 
+        /** For each motif how many turns are left for it, four bits each; 0 if it is not owed. */
+        long debts() {
+            int set = unpaid();
+            long debts = 0L;
+            for (int m = 0; m < MOTIFS && set >> m != 0; m++) {
+                if ((set >> m & 1) != 0) {
+                    long turns = Math.max(0, Math.min(9, dueTurn[m] - count)) + 1;
+                    debts |= turns << 4 * m;
+                }
+            }
+            return debts;
+        }
+
         private int joined() {
             return last >= 0 && last < MOTIFS ? court.followers[last] : court.opening;
         }
@@ -1436,204 +1395,141 @@ public final class TaleCourt {
         }
     }
 
-    /** All that can come of a tale, counted in one walk and kept until court or tale change. */
+    /** What can come of a tale: one question, asked of every tale from now on. */
     private static final class Survey {
-        final int[] rowsOf = new int[MOTIFS + 1];
-        final int[] endings = new int[MOTIFS];
-        private final Court court;
+        static final int LONGEST = 0;
+        static final int FULL = 1;
+        static final int BEST = 2;
+        static final int ROOF = 3;
+        static final int ROWS = 4;
+        static final int WHOLES = 5;
+        static final int ENDS = 6;
+        static final int FITS = 7;
+        private static final int KNOWN = 4096;
+        private static final int KNOWN_SHIFT = 52;
+        private static final long SPREAD = -7046029254386353131L;
+
         private final Telling tale;
-        private final int[] wholesOf = new int[SETS];
-        private final int[] found = new int[MOTIFS];
-        private int foundSize = NONE;
-        private int foundFloor = NONE;
-        private int before;
-        private boolean isKnown;
+        private final Claims claims;
+        // Answers behind what was told, each at one place alone: what another one puts out is worked out again.
+        private final long[] knownKeys = new long[KNOWN];
+        private final int[] known = new int[KNOWN];
+        private int stamp;
+        private int goal;
+        private int number;
+        private int without;
 
-        Survey(Court court) {
-            this.court = court;
+        Survey(Court court, Claims claims) {
             this.tale = new Telling(court);
+            this.claims = claims;
         }
 
-        void forget() {
-            isKnown = false;
-            foundSize = NONE;
-        }
-
-        void look(Telling from) {
-            if (isKnown) {
-                return;
-            }
+        /** The answer to a goal, with the number that goes with it, if none of a set is told any more. */
+        int ask(Telling from, int newGoal, int newNumber, int newWithout) {
             tale.copyFrom(from);
-            before = from.toldSet;
-            Arrays.fill(rowsOf, 0);
-            Arrays.fill(endings, 0);
-            Arrays.fill(wholesOf, 0);
-            walk(0);
-            isKnown = true;
+            goal = newGoal;
+            number = newNumber;
+            without = newWithout;
+            stamp++;
+            return solve(0);
         }
 
-        private void walk(int depth) {
-            if (depth > MOTIFS) {
-                return;
+        /** The i-th motif of the first row that has the answer; NONE if it is not so long, or there is none. */
+        int askRow(Telling from, int newGoal, int newNumber, int i) {
+            int wanted = ask(from, newGoal, newNumber, 0);
+            if (wanted < 0 || i < 0) {
+                return NONE;
             }
-            rowsOf[depth]++;
-            if (tale.isWhole()) {
-                noteWhole(tale.toldSet, tale.last);
+            int motif = NONE;
+            for (int depth = 0; depth <= i && depth <= MOTIFS; depth++) {
+                motif = own(depth) == wanted ? NONE : firstWith(wanted, depth);
+                if (motif < 0) {
+                    return NONE;
+                }
+                tale.tell(motif);
             }
-            int open = tale.tellable();
+            return motif;
+        }
+
+        private int firstWith(int wanted, int depth) {
+            int open = openNow();
             for (int m = 0; m < MOTIFS && open >> m != 0; m++) {
                 if ((open >> m & 1) != 0) {
                     tale.tell(m);
-                    walk(depth + 1);
+                    boolean has = solve(depth + 1) == wanted;
                     tale.takeBack();
-                }
-            }
-        }
-
-        private void noteWhole(int set, int last) {
-            if (set >= 0 && set < SETS && last >= 0 && last < MOTIFS) {
-                wholesOf[set]++;
-                endings[last]++;
-            }
-        }
-
-        int mostRows() {
-            int most = 0;
-            for (int n = 0; n <= MOTIFS; n++) {
-                if (rowsOf[n] > 0) {
-                    most = n;
-                }
-            }
-            return most;
-        }
-
-        /** How many motifs a whole tale of this set tells more; NONE if there is no such tale. */
-        private int moreOf(int set) {
-            return wholesOf[set] > 0 ? Integer.bitCount(set & ~before) : NONE;
-        }
-
-        int mostWhole() {
-            int most = NONE;
-            for (int set = 0; set < SETS; set++) {
-                most = Math.max(most, moreOf(set));
-            }
-            return most;
-        }
-
-        /** The most points of a whole tale that tells none of these from now on; NONE without any. */
-        int mostPoints(int without) {
-            int most = NONE;
-            for (int set = 0; set < SETS; set++) {
-                if (moreOf(set) >= 0 && (set & ~before & without) == 0) {
-                    most = Math.max(most, court.valueOfSet(set));
-                }
-            }
-            return most;
-        }
-
-        int fewest(int floor) {
-            int least = NONE;
-            for (int set = 0; set < SETS; set++) {
-                int more = moreOf(set);
-                if (more >= 0 && (least < 0 || more < least) && court.valueOfSet(set) >= floor) {
-                    least = more;
-                }
-            }
-            return least;
-        }
-
-        /** How many whole tales tell all of these from now on. */
-        int wholesWith(int more) {
-            int sum = 0;
-            for (int set = 0; set < SETS; set++) {
-                if ((more & ~(set & ~before)) == 0) {
-                    sum += wholesOf[set];
-                }
-            }
-            return sum;
-        }
-
-        int inAll() {
-            int common = SETS - 1;
-            for (int set = 0; set < SETS; set++) {
-                if (wholesOf[set] > 0) {
-                    common &= set;
-                }
-            }
-            return common & inSome();
-        }
-
-        int inSome() {
-            int any = 0;
-            for (int set = 0; set < SETS; set++) {
-                if (wholesOf[set] > 0) {
-                    any |= set;
-                }
-            }
-            return any;
-        }
-
-        /** The least row of this size; with a floor (not NONE) one that is whole then, with so many points. */
-        void find(Telling from, int size, int floor) {
-            if (foundSize == size && foundFloor == floor) {
-                return;
-            }
-            tale.copyFrom(from);
-            foundSize = seek(0, size, floor) ? size : NONE;
-            foundFloor = floor;
-            for (int i = 0; i < foundSize && i < MOTIFS && from.count + i < TURNS; i++) {
-                found[i] = tale.turns[from.count + i];
-            }
-        }
-
-        private boolean seek(int depth, int size, int floor) {
-            if (depth >= size || depth > MOTIFS) {
-                return floor < 0 || tale.isWhole() && tale.total >= floor;
-            }
-            int open = tale.tellable();
-            for (int m = 0; m < MOTIFS && open >> m != 0; m++) {
-                if ((open >> m & 1) != 0) {
-                    tale.tell(m);
-                    if (seek(depth + 1, size, floor)) {
-                        return true;
+                    if (has) {
+                        return m;
                     }
-                    tale.takeBack();
                 }
             }
-            return false;
+            return NONE;
         }
 
-        int foundAt(int i) {
-            return i >= 0 && i < foundSize && i < MOTIFS ? found[i] : NONE;
-        }
-
-        int fitting(Telling from, Claims claims) {
-            int told = 0;
-            for (int t = 0; t < from.count && t < TURNS; t++) {
-                int motif = from.turns[t];
-                if (motif != SILENCE && !claims.allows(motif, told)) {
-                    return 0;
-                }
-                told |= 1 << motif;
+        /** The answer of all tales that go on from here; depth is how many motifs were told more. */
+        private int solve(int depth) {
+            long key = key();
+            int place = (int) (key * SPREAD >>> KNOWN_SHIFT);
+            if (depth > MOTIFS || place < 0 || place >= KNOWN) {
+                return NONE;
             }
-            tale.copyFrom(from);
-            return fittingFrom(0, claims);
-        }
-
-        private int fittingFrom(int depth, Claims claims) {
-            if (depth > MOTIFS) {
-                return 0;
+            if (knownKeys[place] == key) {
+                return known[place];
             }
-            int sum = tale.isWhole() && (claims.named & ~tale.toldSet) == 0 ? 1 : 0;
-            int open = tale.tellable();
+            int answer = own(depth);
+            int open = openNow();
             for (int m = 0; m < MOTIFS && open >> m != 0; m++) {
-                if ((open >> m & 1) != 0 && claims.allows(m, tale.toldSet)) {
+                if ((open >> m & 1) != 0) {
                     tale.tell(m);
-                    sum += fittingFrom(depth + 1, claims);
+                    answer = merge(answer, solve(depth + 1));
                     tale.takeBack();
                 }
             }
-            return sum;
+            knownKeys[place] = key;
+            known[place] = answer;
+            return answer;
+        }
+
+        /** All that what comes depends on: the question (14 bits), what was told (9), the latest (4), debts (36). */
+        private long key() {
+            long key = stamp;
+            key = key << 9 | tale.toldSet;
+            key = key << 4 | tale.last + 1;
+            return key << 36 | tale.debts();
+        }
+
+        private int openNow() {
+            int open = tale.tellable() & ~without;
+            return goal == FITS ? claims.allowedOf(open, tale.toldSet) : open;
+        }
+
+        /** What the tale as it is here answers; NONE (or 0, where tales are counted) if it has no part in it. */
+        private int own(int depth) {
+            if (goal == LONGEST) {
+                return depth;
+            }
+            if (goal == ROWS) {
+                return depth == number ? 1 : 0;
+            }
+            boolean isWhole = tale.isWhole();
+            switch (goal) {
+                case FULL: return isWhole ? depth : NONE;
+                case BEST: return isWhole ? tale.total : NONE;
+                case ROOF: return isWhole && tale.total >= number ? depth : NONE;
+                case ENDS: return isWhole && tale.last == number ? 1 : 0;
+                case FITS: return isWhole && (claims.named & ~tale.toldSet) == 0 ? 1 : 0;
+                default: return isWhole ? 1 : 0;
+            }
+        }
+
+        private int merge(int one, int other) {
+            if (goal >= ROWS) {
+                return one + other;
+            }
+            if (goal == ROOF && one >= 0 && other >= 0) {
+                return Math.min(one, other);
+            }
+            return Math.max(one, other);
         }
     }
 
@@ -1649,14 +1545,17 @@ public final class TaleCourt {
         private final Telling tale;
         private int[] memo = null;
         private int stamp;
+        private boolean isQuick;
 
         Game(Court court) {
             this.court = court;
             this.tale = new Telling(court);
         }
 
-        void begin(Telling from) {
+        /** A quick game asks who wins alone, and leaves a position with the first move that wins. */
+        void begin(Telling from, boolean quick) {
             tale.copyFrom(from);
+            isQuick = quick;
             if (memo == null) {
                 memo = new int[POSITIONS];
             }
@@ -1686,7 +1585,7 @@ public final class TaleCourt {
         }
 
         int firstBlunder(Telling from) {
-            begin(from);
+            begin(from, true);
             tale.clear();
             boolean won = isWon();
             for (int t = 0; t < from.count && t < TURNS; t++) {
@@ -1737,7 +1636,7 @@ public final class TaleCourt {
             int moves = movesNow();
             int soonest = NONE;
             int latest = 0;
-            for (int m = 0; m <= SILENCE; m++) {
+            for (int m = 0; m <= SILENCE && (soonest < 0 || !isQuick); m++) {
                 if ((moves >> m & 1) != 0) {
                     play(m);
                     int behind = solve(depth + 1);
@@ -1800,8 +1699,31 @@ public final class TaleCourt {
             leadersBy[listener * MOTIFS + behind] |= 1 << ahead;
         }
 
-        boolean allows(int motif, int told) {
+        private boolean allows(int motif, int told) {
             return motif >= 0 && motif < MOTIFS && (leaders[motif] & ~told) == 0;
+        }
+
+        /** Those of a set that may come next, when all that are said to be ahead of them were told. */
+        int allowedOf(int set, int told) {
+            int allowed = set;
+            for (int m = 0; m < MOTIFS; m++) {
+                if (!allows(m, told)) {
+                    allowed &= ~(1 << m);
+                }
+            }
+            return allowed;
+        }
+
+        boolean allowTale(Telling tale) {
+            int told = 0;
+            for (int t = 0; t < tale.count && t < TURNS; t++) {
+                int motif = tale.turns[t];
+                if (motif != SILENCE && !allows(motif, told)) {
+                    return false;
+                }
+                told |= 1 << motif;
+            }
+            return true;
         }
 
         /** For each set of motifs that may come first: the fewest untrue among them, and in how many orders. */

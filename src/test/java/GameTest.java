@@ -137,6 +137,7 @@ public final class GameTest {
             game(x, -9, -9, -9, -9);
             Check.due("blunder()", x.blunder(), -9);
             Check.due("kept(0, 0)", x.kept(0, 0), -9);
+            Check.due("kept(1, 0), no such motif either", x.kept(1, 0), -9);
             Check.due("trade()", x.trade(), -9);
         }
         TaleCourt two = Check.of("court tellers 2 silent 1;motif worth 0 opens;");
