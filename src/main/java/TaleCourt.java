@@ -1263,13 +1263,17 @@ public final class TaleCourt {
             return set;
         }
 
-        /** For each motif how many turns are left for it, four bits each; 0 if it is not owed. */
+        /**
+         * For each motif how many turns are left for it, four bits each; 0 if it is not owed.
+         * As many turns as there are motifs left, or more, never press: they are held alike, so that tales merge.
+         */
         long debts() {
             int set = unpaid();
+            int more = MOTIFS - Integer.bitCount(toldSet);
             long debts = 0L;
             for (int m = 0; m < MOTIFS && set >> m != 0; m++) {
                 if ((set >> m & 1) != 0) {
-                    long turns = Math.max(0, Math.min(9, dueTurn[m] - count)) + 1;
+                    long turns = Math.max(0, Math.min(more, dueTurn[m] - count)) + 1;
                     debts |= turns << 4 * m;
                 }
             }
