@@ -74,11 +74,10 @@ public final class TaleCourt {
     }
 
     public int court() {
-        boolean isGood = reader.read(draft);
-        reader.size = 0;
-        if (!isGood) {
+        if (!reader.read(draft)) {
             return FAULTY;
         }
+        reader.size = 0;
         court.copyFrom(draft);
         now.clear();
         return court.lines;
@@ -771,7 +770,9 @@ public final class TaleCourt {
         if (!from.holds(i, n) || !into.holds(k, n)) {
             return BEYOND;
         }
-        System.arraycopy(from.numbers, i, into.numbers, k, n);
+        if (n > 0) {
+            System.arraycopy(from.numbers, i, into.numbers, k, n);
+        }
         return 0;
     }
 
@@ -1839,8 +1840,9 @@ public final class TaleCourt {
             return i >= 0 && i < size && i < NUMBERS ? numbers[i] : NONE;
         }
 
+        /** Whether all of n numbers from a place on are in the row; where there are none, none is beyond it. */
         boolean holds(int from, int n) {
-            return from >= 0 && n >= 0 && n <= size && from <= size - n;
+            return from >= 0 && n >= 0 && (n == 0 || n <= size && from <= size - n);
         }
 
         boolean isOfMotifs(Court court) {

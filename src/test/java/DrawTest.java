@@ -59,7 +59,6 @@ public final class DrawTest {
         x.row(0, 0, 1);
         Check.tape(x, "court");
         Check.due("a fault", x.court(), -4);
-        Check.tape(x, "motif");
         Check.due("back(0)", x.back(0), 0);
         Check.due("slots stay", x.count(9), 1);
         Check.due("the tape stays", x.count(7), 5);

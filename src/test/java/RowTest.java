@@ -82,6 +82,8 @@ public final class RowTest {
         Check.due("paste of least", x.paste(0, 0, 1, 0, Integer.MIN_VALUE), -7);
         Check.due("nothing happened", x.taste(0, 1), 3);
         Check.due("paste of none", x.paste(0, 4, 1, 3, 0), 0);
+        Check.due("paste of none, beyond", x.paste(0, 61, 1, Integer.MAX_VALUE, 0), 0);
+        Check.due("paste of none, below 0", x.paste(0, -1, 1, 0, 0), -7);
         Check.due("paste", x.paste(0, 1, 1, 0, 3), 0);
         Check.due("one of 1, two of 0", x.taste(0, 1), 11);
         Check.due("paste to its own, ahead", x.paste(0, 0, 0, 1, 3), 0);

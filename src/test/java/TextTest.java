@@ -165,9 +165,11 @@ public final class TextTest {
         Check.due("a fault", Check.court(x, "court tellers 9 silent 0;"), -4);
         Check.due("the fault", x.fault(0), 2);
         Check.due("its place", x.fault(1), 14);
-        Check.due("the tape is empty", x.count(7), 0);
+        Check.due("the tape stays", x.count(7), 25);
         Check.due("the court stays", x.count(0), 1);
         Check.due("the tale stays", x.told(0), 0);
+        Check.due("the same fault again", x.court(), -4);
+        Check.due("cut to nothing", x.end(0), 0);
         Check.due("another court", Check.court(x, "court tellers 3 silent 0;"), 1);
         Check.due("no fault", x.fault(0), 0);
         Check.due("no place", x.fault(1), -1);
