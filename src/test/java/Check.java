@@ -2,8 +2,18 @@
 final class Check {
     private static int wrong = 0;
     private static int asked = 0;
+    private static String about = "";
 
     private Check() {
+    }
+
+    /** What the answers from now on are about: it stands ahead of each wrong one. */
+    static void about(String words) {
+        about = words.isEmpty() ? "" : "[" + words + "] ";
+    }
+
+    static int asked() {
+        return asked;
     }
 
     static void due(String call, long got, long want) {
@@ -11,7 +21,7 @@ final class Check {
         if (got != want) {
             wrong++;
             if (wrong <= 40) {
-                System.out.println(call + " answered " + got + ", due is " + want);
+                System.out.println(about + call + " answered " + got + ", due is " + want);
             }
         }
     }
@@ -54,6 +64,39 @@ final class Check {
             due("lines of " + text, lines, 1);
         }
         return x;
+    }
+
+    /** Motifs that all open and join on to one another, so that nothing but their marks holds a tale back. */
+    static TaleCourt allJoined(String head, String... motifs) {
+        StringBuilder text = new StringBuilder(head);
+        for (String motif : motifs) {
+            text.append("motif worth ").append(motif).append(" opens;");
+        }
+        for (int a = 0; a < motifs.length; a++) {
+            for (int b = 0; b < motifs.length; b++) {
+                text.append(a == b ? "" : "join " + a + " to " + b + ";");
+            }
+        }
+        return of(text.toString());
+    }
+
+    static void good(String text, int lines) {
+        TaleCourt x = new TaleCourt();
+        tape(x, text);
+        due("court() of " + text, x.court(), lines);
+        due("fault(0) of " + text, x.fault(0), 0);
+        due("fault(1) of " + text, x.fault(1), -1);
+        due("count(6) of " + text, x.count(6), lines);
+        due("count(7) of " + text, x.count(7), 0);
+    }
+
+    static void bad(String text, int fault, int place) {
+        TaleCourt x = new TaleCourt();
+        tape(x, text);
+        due("court() of " + text, x.court(), -4);
+        due("fault(0) of " + text, x.fault(0), fault);
+        due("fault(1) of " + text, x.fault(1), place);
+        due("fault(2) of " + text, x.fault(2), -1);
     }
 
     /** A slot has a row of these numbers, eight bytes each. */

@@ -54,19 +54,19 @@ public final class TextTest {
     }
 
     private static void grammar() {
-        good("", 0);
-        good(" \n ", 0);
-        good(HEAD, 1);
-        good("\n court\ntellers\n3 silent 0 ;\n\n", 1);
-        good("court tellers 1 silent 3;motif worth 0;motif worth 9;", 3);
-        good("court tellers 00000000000000000000002 silent 00;", 1);
-        good("court tellers2silent1;motif worth9opens;", 2);
-        good(HEAD + "motif worth 1 song owes 8 within 9 opens stranger;", 2);
-        good(HEAD + "motif worth 1 owes 1 within 1;" + MOTIF, 3);
-        good(HEAD + MOTIF + MOTIF + "join 0 to 1;join 1 to 0;clash 1 and 0;keeps 1 0;keeps 0 0;forbid 1;forbid 1;", 10);
-        good(HEAD + MOTIF + MOTIF + "listener loves 9;listener loves 0 1 0;", 5);
-        good(HEAD + MOTIF.repeat(9) + "listener loves 1 8 7 6 5 4 3 2 1 0;", 11);
-        good(HEAD + "listener loves 1;".repeat(8), 9);
+        Check.good("", 0);
+        Check.good(" \n ", 0);
+        Check.good(HEAD, 1);
+        Check.good("\n court\ntellers\n3 silent 0 ;\n\n", 1);
+        Check.good("court tellers 1 silent 3;motif worth 0;motif worth 9;", 3);
+        Check.good("court tellers 00000000000000000000002 silent 00;", 1);
+        Check.good("court tellers2silent1;motif worth9opens;", 2);
+        Check.good(HEAD + "motif worth 1 song owes 8 within 9 opens stranger;", 2);
+        Check.good(HEAD + "motif worth 1 owes 1 within 1;" + MOTIF, 3);
+        Check.good(HEAD + MOTIF + MOTIF + "join 0 to 1;join 1 to 0;clash 1 and 0;keeps 1 0;keeps 0 0;forbid 1;forbid 1;", 10);
+        Check.good(HEAD + MOTIF + MOTIF + "listener loves 9;listener loves 0 1 0;", 5);
+        Check.good(HEAD + MOTIF.repeat(9) + "listener loves 1 8 7 6 5 4 3 2 1 0;", 11);
+        Check.good(HEAD + "listener loves 1;".repeat(8), 9);
         TaleCourt x = Check.of(HEAD);
         Check.due("an empty court", x.court(), 0);
         Check.due("is none", x.length(), -2);
@@ -74,89 +74,89 @@ public final class TextTest {
     }
 
     private static void faultsOfHead() {
-        bad("c", 1, 0);
-        bad(";", 1, 0);
-        bad("7", 1, 0);
-        bad("  motif worth 1;", 1, 2);
-        bad("courts tellers 2 silent 1;", 1, 0);
-        bad("court", 1, 5);
-        bad("court  ", 1, 7);
-        bad("court tellers 2", 1, 15);
-        bad("court teller 2 silent 1;", 1, 6);
-        bad("court tellers x silent 1;", 1, 14);
-        bad("court tellers 0 silent 1;", 2, 14);
-        bad("court tellers 4 silent 1;", 2, 14);
-        bad("court tellers 99999999999999999999 silent 1;", 2, 14);
-        bad("court tellers 4294967298 silent 1;", 2, 14);
-        bad("court tellers 2 silent 4;", 2, 23);
-        bad("court tellers 2 silent 1", 1, 24);
-        bad("court tellers 2 silent 1 1;", 1, 25);
-        bad("court tellers 2 silent -1;", 1, 23);
-        bad("court\ttellers 2 silent 1;", 1, 5);
-        bad("Court tellers 2 silent 1;", 1, 0);
-        bad(HEAD + (char) 225, 1, 25);
-        bad(HEAD + (char) 0, 1, 25);
-        bad(HEAD + HEAD, 1, 25);
-        bad(HEAD + ";", 1, 25);
-        bad(HEAD + "9", 1, 25);
-        bad(HEAD + " joins 0 to 1;", 1, 26);
+        Check.bad("c", 1, 0);
+        Check.bad(";", 1, 0);
+        Check.bad("7", 1, 0);
+        Check.bad("  motif worth 1;", 1, 2);
+        Check.bad("courts tellers 2 silent 1;", 1, 0);
+        Check.bad("court", 1, 5);
+        Check.bad("court  ", 1, 7);
+        Check.bad("court tellers 2", 1, 15);
+        Check.bad("court teller 2 silent 1;", 1, 6);
+        Check.bad("court tellers x silent 1;", 1, 14);
+        Check.bad("court tellers 0 silent 1;", 2, 14);
+        Check.bad("court tellers 4 silent 1;", 2, 14);
+        Check.bad("court tellers 99999999999999999999 silent 1;", 2, 14);
+        Check.bad("court tellers 4294967298 silent 1;", 2, 14);
+        Check.bad("court tellers 2 silent 4;", 2, 23);
+        Check.bad("court tellers 2 silent 1", 1, 24);
+        Check.bad("court tellers 2 silent 1 1;", 1, 25);
+        Check.bad("court tellers 2 silent -1;", 1, 23);
+        Check.bad("court\ttellers 2 silent 1;", 1, 5);
+        Check.bad("Court tellers 2 silent 1;", 1, 0);
+        Check.bad(HEAD + (char) 225, 1, 25);
+        Check.bad(HEAD + (char) 0, 1, 25);
+        Check.bad(HEAD + HEAD, 1, 25);
+        Check.bad(HEAD + ";", 1, 25);
+        Check.bad(HEAD + "9", 1, 25);
+        Check.bad(HEAD + " joins 0 to 1;", 1, 26);
     }
 
     private static void faultsOfMotifs() {
-        bad(HEAD + "motif 1;", 1, 31);
-        bad(HEAD + "motif worth;", 1, 36);
-        bad(HEAD + "motif worth 10;", 2, 37);
-        bad(HEAD + "motif worth 1 worth 1;", 1, 39);
-        bad(HEAD + "motif worth 1 opens opens;", 1, 45);
-        bad(HEAD + "motif worth 1 song stranger song;", 1, 53);
-        bad(HEAD + "motif worth 1 stranger stranger;", 1, 48);
-        bad(HEAD + "motif worth 1 owes 1 within 1 owes 2 within 1;", 1, 55);
-        bad(HEAD + "motif worth 1 opens song stranger owes 1 within 1 opens;", 1, 75);
-        bad(HEAD + "motif worth 1 owes 0 within 1;", 2, 44);
-        bad(HEAD + MOTIF + "motif worth 1 owes 1 within 1;", 2, 58);
-        bad(HEAD + "motif worth 1 owes 9 within 1;", 2, 44);
-        bad(HEAD + "motif worth 1 owes 1 within 0;", 2, 53);
-        bad(HEAD + "motif worth 1 owes 1 within 10;", 2, 53);
-        bad(HEAD + "motif worth 1 owes 1;", 1, 45);
-        bad(HEAD + "motif worth 1 opens", 1, 44);
-        bad(HEAD + MOTIF.repeat(9) + MOTIF, 3, 25 + 9 * 14);
-        bad(HEAD + MOTIF.repeat(9) + "motif", 3, 25 + 9 * 14);
+        Check.bad(HEAD + "motif 1;", 1, 31);
+        Check.bad(HEAD + "motif worth;", 1, 36);
+        Check.bad(HEAD + "motif worth 10;", 2, 37);
+        Check.bad(HEAD + "motif worth 1 worth 1;", 1, 39);
+        Check.bad(HEAD + "motif worth 1 opens opens;", 1, 45);
+        Check.bad(HEAD + "motif worth 1 song stranger song;", 1, 53);
+        Check.bad(HEAD + "motif worth 1 stranger stranger;", 1, 48);
+        Check.bad(HEAD + "motif worth 1 owes 1 within 1 owes 2 within 1;", 1, 55);
+        Check.bad(HEAD + "motif worth 1 opens song stranger owes 1 within 1 opens;", 1, 75);
+        Check.bad(HEAD + "motif worth 1 owes 0 within 1;", 2, 44);
+        Check.bad(HEAD + MOTIF + "motif worth 1 owes 1 within 1;", 2, 58);
+        Check.bad(HEAD + "motif worth 1 owes 9 within 1;", 2, 44);
+        Check.bad(HEAD + "motif worth 1 owes 1 within 0;", 2, 53);
+        Check.bad(HEAD + "motif worth 1 owes 1 within 10;", 2, 53);
+        Check.bad(HEAD + "motif worth 1 owes 1;", 1, 45);
+        Check.bad(HEAD + "motif worth 1 opens", 1, 44);
+        Check.bad(HEAD + MOTIF.repeat(9) + MOTIF, 3, 25 + 9 * 14);
+        Check.bad(HEAD + MOTIF.repeat(9) + "motif", 3, 25 + 9 * 14);
     }
 
     private static void faultsOfPairs() {
         String two = HEAD + MOTIF + MOTIF;
-        bad(HEAD + "join 0 to 1;", 2, 30);
-        bad(HEAD + MOTIF + "join 0 to 1;" + MOTIF, 2, 49);
-        bad(two + "join 0 to 0;", 2, 63);
-        bad(two + "join 2 to 0;", 2, 58);
-        bad(two + "join 0 and 1;", 1, 60);
-        bad(two + "join 0 to 1;join 0 to 1;", 2, 75);
-        bad(two + "join 0 to 1 1;", 1, 65);
-        bad(two + "clash 0 and 0;", 2, 65);
-        bad(two + "clash 0 to 1;", 1, 61);
-        bad(two + "clash 0 and 1;clash 0 and 1;", 2, 79);
-        bad(two + "clash 0 and 1;clash 1 and 0;", 2, 79);
-        bad(two + "keeps 2 0;", 2, 59);
-        bad(two + "keeps 1 2;", 2, 61);
-        bad(two + "keeps 1;", 1, 60);
-        bad(two + "forbid 2;", 2, 60);
-        bad(two + "forbid;", 1, 59);
-        bad(two + "forbid 0 1;", 1, 62);
-        bad(HEAD + "forbid 0;" + MOTIF, 2, 32);
+        Check.bad(HEAD + "join 0 to 1;", 2, 30);
+        Check.bad(HEAD + MOTIF + "join 0 to 1;" + MOTIF, 2, 49);
+        Check.bad(two + "join 0 to 0;", 2, 63);
+        Check.bad(two + "join 2 to 0;", 2, 58);
+        Check.bad(two + "join 0 and 1;", 1, 60);
+        Check.bad(two + "join 0 to 1;join 0 to 1;", 2, 75);
+        Check.bad(two + "join 0 to 1 1;", 1, 65);
+        Check.bad(two + "clash 0 and 0;", 2, 65);
+        Check.bad(two + "clash 0 to 1;", 1, 61);
+        Check.bad(two + "clash 0 and 1;clash 0 and 1;", 2, 79);
+        Check.bad(two + "clash 0 and 1;clash 1 and 0;", 2, 79);
+        Check.bad(two + "keeps 2 0;", 2, 59);
+        Check.bad(two + "keeps 1 2;", 2, 61);
+        Check.bad(two + "keeps 1;", 1, 60);
+        Check.bad(two + "forbid 2;", 2, 60);
+        Check.bad(two + "forbid;", 1, 59);
+        Check.bad(two + "forbid 0 1;", 1, 62);
+        Check.bad(HEAD + "forbid 0;" + MOTIF, 2, 32);
     }
 
     private static void faultsOfListeners() {
         String two = HEAD + MOTIF + MOTIF;
-        bad(two + "listener loves 10;", 2, 68);
-        bad(two + "listener loves;", 1, 67);
-        bad(two + "listener 1;", 1, 62);
-        bad(two + "listener loves 1 2;", 2, 70);
-        bad(two + "listener loves 1 0 1 0;", 2, 74);
-        bad(two + "listener loves 1 0 x;", 1, 72);
-        bad(two + "listener loves 1 0", 1, 71);
-        bad(HEAD + MOTIF.repeat(9) + "listener loves 1 0 1 2 3 4 5 6 7 8 8;", 2, 25 + 126 + 35);
-        bad(HEAD + MOTIF.repeat(9) + "listener loves 1 0 1 2 3 4 5 6 7 8 ?", 1, 25 + 126 + 35);
-        bad(HEAD + "listener loves 1;".repeat(9), 3, 25 + 8 * 17);
+        Check.bad(two + "listener loves 10;", 2, 68);
+        Check.bad(two + "listener loves;", 1, 67);
+        Check.bad(two + "listener 1;", 1, 62);
+        Check.bad(two + "listener loves 1 2;", 2, 70);
+        Check.bad(two + "listener loves 1 0 1 0;", 2, 74);
+        Check.bad(two + "listener loves 1 0 x;", 1, 72);
+        Check.bad(two + "listener loves 1 0", 1, 71);
+        Check.bad(HEAD + MOTIF.repeat(9) + "listener loves 1 0 1 2 3 4 5 6 7 8 8;", 2, 25 + 126 + 35);
+        Check.bad(HEAD + MOTIF.repeat(9) + "listener loves 1 0 1 2 3 4 5 6 7 8 ?", 1, 25 + 126 + 35);
+        Check.bad(HEAD + "listener loves 1;".repeat(9), 3, 25 + 8 * 17);
     }
 
     private static void staying() {
@@ -175,24 +175,5 @@ public final class TextTest {
         Check.due("no place", x.fault(1), -1);
         Check.due("nothing told", x.length(), 0);
         Check.due("no motifs", x.count(0), 0);
-    }
-
-    private static void good(String text, int lines) {
-        TaleCourt x = new TaleCourt();
-        Check.tape(x, text);
-        Check.due("court() of " + text, x.court(), lines);
-        Check.due("fault(0) of " + text, x.fault(0), 0);
-        Check.due("fault(1) of " + text, x.fault(1), -1);
-        Check.due("count(6) of " + text, x.count(6), lines);
-        Check.due("count(7) of " + text, x.count(7), 0);
-    }
-
-    private static void bad(String text, int fault, int place) {
-        TaleCourt x = new TaleCourt();
-        Check.tape(x, text);
-        Check.due("court() of " + text, x.court(), -4);
-        Check.due("fault(0) of " + text, x.fault(0), fault);
-        Check.due("fault(1) of " + text, x.fault(1), place);
-        Check.due("fault(2) of " + text, x.fault(2), -1);
     }
 }
