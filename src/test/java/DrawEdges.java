@@ -196,6 +196,38 @@ final class DrawEdges {
         }
     }
 
+    /** A tale is gone back to, another one was told meanwhile, and is taken back turn by turn. */
+    private static void takenBackThen() {
+        TaleCourt x = Check.of("court tellers 1 silent 2;motif worth 1 opens owes 4 within 9;motif worth 1 owes 4 within 2;"
+            + "motif worth 1;motif worth 1 opens;motif worth 1;join 0 to 1;join 1 to 4;join 0 to 2;join 3 to 4;"
+            + "clash 0 and 3;clash 1 and 2;");
+        x.say(0);
+        x.say(1);
+        x.say(4);
+        x.keep(0);
+        x.anew();
+        x.hush();
+        x.say(0);
+        x.hush();
+        x.say(1);
+        x.anew();
+        x.hush();
+        x.say(3);
+        x.say(4);
+        x.back(0);
+        Check.due("unsay()", x.unsay(), 2);
+        Check.due("due(4)", x.due(4), 3);
+        Check.due("why(4)", x.why(4), 0);
+        Check.due("why(2), why(3)", 10 * x.why(2) + x.why(3), 22);
+        Check.due("unsay()", x.unsay(), 1);
+        Check.due("due(4)", x.due(4), 9);
+        Check.due("why(2), why(3)", 10 * x.why(2) + x.why(3), 2);
+        Check.due("why(1)", x.why(1), 0);
+        Check.due("unsay()", x.unsay(), 0);
+        Check.due("owed()", x.owed(), 0);
+        Check.due("may()", x.may(), 9);
+    }
+
     private static void back() {
         Edge.of("66", "These are as IMAGE k has them: 0.");
         TaleCourt x = Check.of(TEXT);
@@ -232,6 +264,7 @@ final class DrawEdges {
         Check.due("back(1) again, it stays", x.back(1), 0);
         Check.due("told(1)", x.told(1), 9);
         Check.due("motif(1, 6)", x.motif(1, 6), -1);
+        takenBackThen();
         Edge.of("66", "-2: no such k");
         int[] wrong = {-1, 3, 4, Integer.MIN_VALUE, Integer.MAX_VALUE};
         for (int k : wrong) {

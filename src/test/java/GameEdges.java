@@ -1,3 +1,5 @@
+import java.util.Arrays;
+
 /** Promises 39 to 44, 48 and term IV: the game of two. */
 final class GameEdges {
     private static final TaleCourt NO_COURT = new TaleCourt();
@@ -102,6 +104,13 @@ final class GameEdges {
         // Behind 0 each is silent once; who is silent first leaves 0 to the other.
         game(Check.of("court tellers 2 silent 1;" + OPENS), 1, 0, 3, 1);
         game(Check.of("court tellers 2 silent 1;" + OPENS + "keeps 0 0;"), 1, 0, 3, 513);
+        for (int n = 0; n <= 9; n++) {
+            for (int times = 0; times <= 3; times++) {
+                String[] motifs = new String[n];
+                Arrays.fill(motifs, "0");
+                allAlike(Check.allJoined("court tellers 2 silent " + times + ";", motifs), n, times);
+            }
+        }
         // As many turns as a game can have.
         TaleCourt x = Check.allJoined("court tellers 2 silent 3;", "0", "0", "0", "0", "0", "0", "0", "0", "0");
         game(x, 1, 0, 15, 511);
@@ -109,6 +118,36 @@ final class GameEdges {
             x.hush();
         }
         game(x, 1, 0, 9, 511);
+    }
+
+    /** Motifs that are all joined are alike: what counts is how many are left, and the silences of both. */
+    private static void allAlike(TaleCourt x, int n, int times) {
+        int turns = turns(n, times, times);
+        int isWon = turns % 2;
+        int byMotif = n > 0 && turns(n - 1, times, times) % 2 == 0 ? (1 << n) - 1 : 0;
+        int bySilence = times > 0 && turns(n, times, times - 1) % 2 == 0 ? 512 : 0;
+        game(x, isWon, isWon == 0 ? -1 : byMotif != 0 ? 0 : 9, turns, byMotif | bySilence);
+        if (x.hush() > 0) {
+            Check.due("wins() behind silence", x.wins(), turns(n, times, times - 1) % 2);
+            Check.due("lasts() behind silence", x.lasts(), turns(n, times, times - 1));
+        }
+        if (x.say(0) == 0) {
+            Check.due("wins() behind 0", x.wins(), turns(n - 1, times == 0 ? 0 : times - 1, times) % 2);
+        }
+    }
+
+    /** How long it lasts, with so many motifs, silences of whose turn it is, and of the other; odd if he wins. */
+    private static int turns(int motifs, int his, int others) {
+        int soonest = 99;
+        int latest = 0;
+        for (int way = 0; way < 2; way++) {
+            if (way == 0 ? motifs > 0 : his > 0) {
+                int more = 1 + (way == 0 ? turns(motifs - 1, others, his) : turns(motifs, others, his - 1));
+                soonest = more % 2 == 1 ? Math.min(soonest, more) : soonest;
+                latest = more % 2 == 0 ? Math.max(latest, more) : latest;
+            }
+        }
+        return soonest < 99 ? soonest : latest;
     }
 
     private static void turnsCountOn() {
@@ -255,6 +294,7 @@ final class GameEdges {
         x = Check.of(HEAD + MOTIF + OPENS + "keeps 0 0;keeps 1 1;");
         Check.due("trade(), the lesser is his", x.trade(), 1);
         Edge.of("44", "NONE: there are none, he wins now");
+        Check.due("trade(), he wins now and then", Check.of(HEAD + OPENS + OPENS + "keeps 0 0;keeps 1 1;").trade(), -1);
         x.keeps(1, 0);
         x.keeps(0, 1);
         Check.due("trade(), he wins now", x.trade(), -1);

@@ -251,6 +251,8 @@ final class RowEdges {
         TaleCourt x = Check.of(NINE);
         lied(x, 0, 1, 8, 7, 7, 6, 6, 5, 5, 4, 4, 3, 3, 2, 2, 1, 1, 0);
         lied(x, 0, 181440, 4, 8);
+        Check.row(x, 0, 4, 8, 8, 4);
+        Check.due("orders(), asked alone", x.orders(0), 362880);
         lied(x, 1, 9, 0, 1, 1, 2, 2, 3, 3, 4, 4, 5, 5, 6, 6, 7, 7, 8, 8, 0);
         Edge.of("55", "-2, -6 likewise");
         noSlot("55");
@@ -299,6 +301,8 @@ final class RowEdges {
         x.say(2);
         x.hush();
         fit(x, 1, 2, 1, 1, 0);
+        fit(x, 0, 0, 2);
+        fit(x, 0, 1, 2);
         fit(x, 3, 2, 1);
         Edge.of("56", "-2, -6 likewise");
         noSlot("56");
@@ -640,6 +644,10 @@ final class RowEdges {
         Check.due("paste(3, 0, 0, 0, 0)", x.paste(3, 0, 0, 0, 0), -6);
         Check.due("paste(3, 0, 3, 0, 0)", x.paste(3, 0, 3, 0, 0), -6);
         Check.due("paste(3, -1, 0, -1, -1)", x.paste(3, -1, 0, -1, -1), -6);
+        x.row(2, 3, 0);
+        Check.due("paste(0, 0, 2, 0, 0), an empty row is not nothing", x.paste(0, 0, 2, 0, 0), 0);
+        Check.due("paste(2, 0, 0, 0, 0), an empty row is not nothing", x.paste(2, 0, 0, 0, 0), 0);
+        Check.due("paste(2, 0, 2, 0, 1), an empty row is not nothing", x.paste(2, 0, 2, 0, 1), -7);
         Edge.of("69", "-8: they are not of one WIDTH");
         for (int width = 0; width < 3; width++) {
             x.row(2, width, 4);

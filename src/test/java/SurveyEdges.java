@@ -70,6 +70,19 @@ final class SurveyEdges {
         x = Check.of("court tellers 1 silent 0;motif worth 1 opens;motif worth 1 opens;motif worth 1;join 0 to 1;join 1 to 0;"
             + "join 1 to 2;clash 2 and 0;");
         rowsDue(x, 1, 2, 3);
+        // Behind 0 1 2 it is the last turn for 4, behind 1 0 2 not yet.
+        x = Check.of("court tellers 1 silent 0;motif worth 1 opens owes 4 within 3;motif worth 1 opens;motif worth 1;motif worth 1;"
+            + "motif worth 1;join 0 to 1;join 1 to 0;join 0 to 2;join 1 to 2;join 2 to 3;join 2 to 4;join 3 to 4;");
+        rowsDue(x, 1, 2, 4, 6, 5, 1);
+        Check.due("wholes()", x.wholes(), 10);
+        Check.due("line(0)", x.line(0), 1);
+        Check.due("best()", x.best(), 5);
+        // The same, 0 and 4 changed.
+        x = Check.of("court tellers 1 silent 0;motif worth 1;motif worth 1 opens;motif worth 1;motif worth 1;"
+            + "motif worth 1 opens owes 0 within 3;join 4 to 1;join 1 to 4;join 4 to 2;join 1 to 2;join 2 to 3;join 2 to 0;"
+            + "join 3 to 0;");
+        rowsDue(x, 1, 2, 4, 6, 5, 1);
+        Check.due("wholes()", x.wholes(), 10);
         Edge.of("III", "nobody silent.");
         x = Check.of("court tellers 1 silent 3;motif worth 1 opens;motif worth 1;motif worth 1 stranger;motif worth 1 opens stranger;"
             + "join 0 to 1;join 1 to 2;");
@@ -197,6 +210,8 @@ final class SurveyEdges {
         Check.due("tale(0), more", x.tale(0), 1);
         Check.due("tale(1), more", x.tale(1), 2);
         Check.due("tale(8) of nine", nine().tale(8), 8);
+        TaleCourt low = Check.of("court tellers 1 silent 0;motif worth 0;motif worth 0 opens;forbid 0;");
+        Check.due("tale(0) of 0 points", low.tale(0), 1);
         Edge.of("32", "NONE, -2 likewise");
         Check.due("tale(2)", x.tale(2), -1);
         for (int i : NO_PLACES) {
@@ -223,12 +238,18 @@ final class SurveyEdges {
         x.say(2);
         Check.due("roof(10), as it is", x.roof(10), 0);
         Check.due("roof(0), as it is", x.roof(0), 0);
+        x = Check.of(SMALL);
+        x.forbid(0, 0);
+        x.say(0);
+        Check.due("roof(1), as it is, though more can be told", x.roof(1), 0);
+        Check.due("roof(2)", x.roof(2), 1);
         TaleCourt all = nine();
         int[] sums = {9, 17, 24, 30, 35, 39, 42, 44, 45};
         for (int k = 0; k < 9; k++) {
             Check.due("roof(" + sums[k] + ")", all.roof(sums[k]), k + 1);
         }
         Edge.of("33", "NONE: by none");
+        x.say(2);
         Check.due("roof(11)", x.roof(11), -1);
         Check.due("roof(max)", x.roof(Integer.MAX_VALUE), -1);
         Check.due("roof(46) of nine", all.roof(46), -1);
@@ -262,6 +283,9 @@ final class SurveyEdges {
         Check.due("beam(45, 9)", all.beam(45, 9), -1);
         x.say(2);
         Check.due("beam(10, 0), as it is", x.beam(10, 0), -1);
+        x.unsay();
+        x.forbid(0, 0);
+        Check.due("beam(1, 0), as it is, though more can be told", x.beam(1, 0), -1);
         Check.due("beam(min, 0)", x.beam(Integer.MIN_VALUE, 0), -2);
         Check.due("beam(0, 0)", NO_COURT.beam(0, 0), -2);
     }
@@ -455,6 +479,11 @@ final class SurveyEdges {
         x = Check.of("court tellers 1 silent 0;motif worth 4 opens;motif worth 2 song;join 0 to 1;");
         x.say(0);
         Check.due("cost(1), a song, as it is stays", x.cost(1), 6);
+        x = Check.of("court tellers 1 silent 0;motif worth 0 opens;motif worth 0 opens;motif worth 3 opens;");
+        Check.due("cost(2), 0 points are left", x.cost(2), 3);
+        x.say(0);
+        Check.due("cost(1), of 0 points", x.cost(1), 0);
+        x = Check.of("court tellers 1 silent 0;motif worth 4 opens;motif worth 2 song;join 0 to 1;");
         Edge.of("51", "NONE: there is none now, or none then");
         Check.due("cost(0), none then", Check.of(SMALL).cost(0), -1);
         Check.due("cost(2), none then", Check.of(SMALL).cost(2), -1);

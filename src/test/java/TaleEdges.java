@@ -175,6 +175,9 @@ final class TaleEdges {
                 Check.due("say(2), the last turn", x.say(2), 1);
             }
         }
+        for (int owed = 0; owed < 9; owed++) {
+            lastTurnOf(owed);
+        }
         // Two that have their last turn at once: neither may be told.
         TaleCourt x = Check.of("court tellers 1 silent 3;motif worth 1 opens owes 2 within 2;motif worth 1 owes 3 within 1;"
             + "motif worth 1;motif worth 1;join 0 to 1;join 1 to 2;join 1 to 3;");
@@ -184,6 +187,34 @@ final class TaleEdges {
         Check.due("why(3)", x.why(3), 5);
         Check.due("may()", x.may(), 0);
         Check.due("hush()", x.hush(), -5);
+    }
+
+    /** Whichever motif is owed; the one behind it (round) opens and owes it, all are joined. */
+    private static void lastTurnOf(int owed) {
+        String[] motifs = {"1", "1", "1", "1", "1", "1", "1", "1", "1"};
+        int debtor = (owed + 1) % 9;
+        int other = (owed + 2) % 9;
+        motifs[debtor] = "1 owes " + owed + " within 2";
+        TaleCourt x = Check.allJoined("court tellers 1 silent 3;", motifs);
+        x.say(debtor);
+        Check.due("owed()", x.owed(), 1 << owed);
+        Check.due("due()", x.due(owed), 2);
+        Check.due("why(), not yet", x.why(other), 0);
+        Check.due("may(), not yet", x.may(), 511 - (1 << debtor));
+        x.hush();
+        Check.due("why(), the last turn", x.why(other), 5);
+        Check.due("may(), the last turn", x.may(), 1 << owed);
+        x.say(owed);
+        Check.due("owed(), paid", x.owed(), 0);
+        Check.due("why()", x.why(other), 0);
+        x.unsay();
+        Check.due("may(), taken back", x.may(), 1 << owed);
+        x.unsay();
+        x.unsay();
+        Check.due("owed(), all taken back", x.owed(), 0);
+        x.hush();
+        x.say(debtor);
+        Check.due("due(), a turn later", x.due(owed), 3);
     }
 
     private static void keeper() {
@@ -372,6 +403,37 @@ final class TaleEdges {
         Check.due("unsay()", x.unsay(), 2);
         Check.due("owed(), not paid", x.owed(), 8);
         Check.due("due(3)", x.due(3), 3);
+        x = Check.of("court tellers 1 silent 0;motif worth 1 opens;motif worth 1;motif worth 1 opens;motif worth 1 opens;"
+            + "join 0 to 1;join 0 to 2;join 1 to 2;join 1 to 3;clash 0 and 3;clash 1 and 2;");
+        x.say(0);
+        x.say(1);
+        Check.due("why(2), why(3)", 10 * x.why(2) + x.why(3), 22);
+        x.unsay();
+        Check.due("why(2), why(3), 0 clashes still", 10 * x.why(2) + x.why(3), 2);
+        for (int owed = 0; owed < 9; owed++) {
+            String[] motifs = {"1", "1", "1", "1", "1", "1", "1", "1", "1"};
+            int first = (owed + 3) % 9;
+            int second = (owed + 7) % 9;
+            motifs[first] = "1 owes " + owed + " within 8";
+            motifs[second] = "1 owes " + owed + " within 4";
+            x = Check.allJoined("court tellers 1 silent 0;", motifs);
+            x.say(first);
+            Check.due("due()", x.due(owed), 8);
+            x.say(second);
+            Check.due("due(), of the second", x.due(owed), 5);
+            x.unsay();
+            Check.due("due(), of the first again", x.due(owed), 8);
+            x.unsay();
+            Check.due("due(), of none", x.due(owed), -1);
+        }
+        x = Check.allJoined("court tellers 3 silent 3;", NINE);
+        for (int i = 0; i < 9; i++) {
+            x.say(i);
+            x.hush();
+        }
+        for (int turns = 17; turns >= 0; turns--) {
+            Check.due("unsay(), of the most", x.unsay(), turns);
+        }
         Edge.of("15", "-5: there is none");
         x.anew();
         Check.due("unsay()", x.unsay(), -5);
@@ -591,7 +653,23 @@ final class TaleEdges {
         Check.due("share(1)", x.share(1), 27 + 24);
         x.unsay();
         Check.due("share(1), taken back", x.share(1), 27);
+        x = Check.allJoined("court tellers 1 silent 1;", NINE);
+        x.say(0);
+        x.say(8);
+        x.hush();
+        x.say(1);
+        Check.due("share(0), all his", x.share(0), 30);
+        x = Check.allJoined("court tellers 3 silent 3;", NINE);
+        for (int i = 0; i < 9; i++) {
+            x.hush();
+            x.say(i);
+        }
+        // Turns 1, 3, .., 17 tell 0 .. 8: teller 0 told 1, 4, 7, teller 1 told 0, 3, 6, teller 2 told 2, 5, 8.
+        Check.due("share(0)", x.share(0), 2 + 5 + 24);
+        Check.due("share(1)", x.share(1), 1 + 4 + 7);
+        Check.due("share(2)", x.share(2), 3 + 6 + 27);
         Edge.of("26", "-2: there is none such");
+        x = Check.of("court tellers 2 silent 0;");
         for (int teller : NO_TELLERS) {
             Check.due("share(" + teller + ")", x.share(teller), -2);
         }

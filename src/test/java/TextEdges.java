@@ -171,6 +171,10 @@ final class TextEdges {
         Check.due("taste()", x.taste(0, 0), 0);
         Check.due("taste()", x.taste(1, 0), -1000);
         Check.due("left(2)", x.left(2), -2);
+        x = Check.of("court tellers 2 silent 0;motif worth 1 opens;keeps 1 0;");
+        Check.due("why(0)", x.why(0), 6);
+        Check.court(x, "court tellers 2 silent 0;motif worth 1 opens;");
+        Check.due("why(0), nobody keeps it any more", x.why(0), 0);
         Edge.of("4", ", nothing told");
         x = Check.of(RICH);
         Check.due("say(0)", x.say(0), 27);
@@ -279,6 +283,8 @@ final class TextEdges {
                 Check.bad(stem + "0 " + rest, 1, stem.length());
                 Check.bad(stem + tokens[i] + "s" + rest, 1, stem.length());
                 Check.bad(stem + tokens[i].substring(1) + rest, 1, stem.length());
+                Check.bad(stem + "x" + tokens[i].substring(1) + rest, 1, stem.length());
+                Check.bad(stem + tokens[i].substring(0, tokens[i].length() - 1) + "x" + rest, 1, stem.length());
             }
             boolean mayEnd = i == 0 && !there.isEmpty() && !there.endsWith(";");
             if (!tokens[i].equals(";") && !mayEnd) {
